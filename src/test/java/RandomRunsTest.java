@@ -2,7 +2,7 @@ import java.util.Arrays;
 
 /** Promises 2 to 18, in runs of 512 calls of any kind, against the model: answers, exceptions, and what is changed. */
 final class RandomRunsTest {
-    private static final int RUNS = 300;
+    private static final int RUNS = 100;
     private static final int CALLS = 512;
     private static final int KINDS = 17;
     private static final int[] EDGES = {-1, Integer.MIN_VALUE, Integer.MAX_VALUE, 8, 10, 30, 32, 64};

@@ -5,6 +5,7 @@ final class ScanningTest {
 
     public static void main(String[] args) {
         promise09Stress();
+        promise09FullPoem();
         promise09WrongPlaces();
         promise10Melted();
         promise10ThreeInOne();
@@ -48,6 +49,24 @@ final class ScanningTest {
         stresses(x, 1, 0, 1, 1);
         stresses(x, 2, 0, 1, 0, 1);
         Check.same("lost", x.count(5), 1);
+    }
+
+    private static void promise09FullPoem() {
+        RhymeTax x = new RhymeTax();
+        x.word(4, 1, 0, 1, false);
+        for (int line = 0; line < 10; line++) {
+            x.line(2, 6, 0);
+            for (int place = 0; place < 8; place++) {
+                x.write(line, place, 0);
+            }
+        }
+        for (int line = 0; line < 10; line++) {
+            Check.same("stay in " + line, x.told(line, 6), 18);
+            for (int place = 0; place < 18; place++) {
+                Check.same("each fourth one of all", x.stress(line, place), (18 * line + place) % 4 == 0 ? 1 : 0);
+            }
+        }
+        Check.same("lost", x.count(5), 320 - 180);
     }
 
     private static void promise09WrongPlaces() {
@@ -196,6 +215,9 @@ final class ScanningTest {
         Check.same("by what went over, a trochee", x.scans(1), 1);
         Check.same("the next line's syllables are not its own", x.told(1, 6), 2);
         Check.same("and so it lacks one by 2 and 3", x.scans(1), 1);
+        x.word(4, 9, 0, 1, false);
+        x.write(0, 0, 1);
+        Check.same("what would go over is not off", x.scans(0), 1);
     }
 
     private static void promise13Count() {
@@ -223,6 +245,10 @@ final class ScanningTest {
 
     private static void promise13WrongCount() {
         RhymeTax x = new RhymeTax();
+        x.word(3, 0, 1, 1, false);
+        x.line(0, 1, 0);
+        x.write(0, 0, 0);
+        Check.same("lost behind the only line", x.count(5), 1);
         Check.noIndex("count 7", () -> x.count(7));
         Check.noIndex("count -1", () -> x.count(-1));
         Check.noIndex("count MAX", () -> x.count(Integer.MAX_VALUE));

@@ -106,6 +106,8 @@ final class WouldBeTest {
         Check.same("nothing is changed", x.digest(), before);
         x.write(1, 1, 0);
         Check.same("all is well", x.worst(), -1);
+        x.write(0, 0, 1);
+        Check.same("the very first word", x.worst(), 0);
     }
 
     private static void promise16SeveralWorst() {
