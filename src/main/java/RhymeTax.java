@@ -343,12 +343,12 @@ public final class RhymeTax {
 
     private Word bestWord(int line, int place, Word replaced) {
         Word best = replaced;
-        int least = Integer.MAX_VALUE;
+        int least = 0;
         for (int i = 0; i < words.size(); i++) {
             Word tried = words.get(i);
             putWord(line, place, tried);
             int taxes = allTaxes();
-            if (taxes < least) {
+            if (i == 0 || taxes < least) {
                 least = taxes;
                 best = tried;
             }

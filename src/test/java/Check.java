@@ -34,14 +34,40 @@ final class Check {
         throwing(what, call, IllegalStateException.class);
     }
 
+    /** As above, and nothing is changed by the refused call. */
+    static void noIndex(String what, RhymeTax x, Call call) {
+        unchanged(what, x, () -> noIndex(what, call));
+    }
+
+    static void noArgument(String what, RhymeTax x, Call call) {
+        unchanged(what, x, () -> noArgument(what, call));
+    }
+
+    static void noState(String what, RhymeTax x, Call call) {
+        unchanged(what, x, () -> noState(what, call));
+    }
+
+    static void unchanged(String what, RhymeTax x, Call call) {
+        long before = x.digest();
+        call.run();
+        same(what + ": the digest then", x.digest(), before);
+    }
+
     private static void throwing(String what, Call call, Class<? extends RuntimeException> due) {
-        Class<?> got = null;
+        RuntimeException got = null;
         try {
             call.run();
         } catch (RuntimeException e) {
-            got = e.getClass();
+            got = e;
         }
-        note(got == due, what + " threw " + got + ", due is " + due);
+        note(got != null && got.getClass() == due && isThrownByTheProgram(got),
+                what + " threw " + got + ", due is " + due + ", thrown by the program");
+    }
+
+    /** The machine and its library must throw nothing: what they throw has another class's method on top. */
+    private static boolean isThrownByTheProgram(RuntimeException e) {
+        StackTraceElement[] trace = e.getStackTrace();
+        return trace.length > 0 && trace[0].getClassName().equals("RhymeTax");
     }
 
     private static void note(boolean is, String fault) {
