@@ -77,11 +77,16 @@ public final class RhymeTax {
         int size = changed.row.size();
         refuseOutside(place, size + 1);
         Word written = neededWord(word);
-        if (place == size && size >= MOST_IN_LINE) {
+        if (place < size) {
+            replaceWord(line, place, written);
+            return size;
+        }
+        if (size >= MOST_IN_LINE) {
             throw new IllegalStateException("the line has 8 words");
         }
-        putWord(line, place, written);
-        return changed.row.size();
+        changed.addWord(written);
+        scanFrom(line);
+        return size + 1;
     }
 
     /** Strikes the last word of a line, and returns it. */
@@ -325,19 +330,20 @@ public final class RhymeTax {
 
     // ---- changing and trying
 
-    private void putWord(int number, int place, Word word) {
+    /** The row stays as long as it is, so that a loop over its places may try words in it. */
+    private void replaceWord(int number, int place, Word word) {
         if (!isBelow(number, lines.size())) {
             return;
         }
-        lines.get(number).putWord(place, word);
+        lines.get(number).replaceWord(place, word);
         scanFrom(number);
     }
 
     /** Tries in the row itself, so that no copy is made, and puts back the word that stood there. */
     private int taxesWith(int line, int place, Word tried, Word replaced) {
-        putWord(line, place, tried);
+        replaceWord(line, place, tried);
         int taxes = allTaxes();
-        putWord(line, place, replaced);
+        replaceWord(line, place, replaced);
         return taxes;
     }
 
@@ -346,14 +352,14 @@ public final class RhymeTax {
         int least = 0;
         for (int i = 0; i < words.size(); i++) {
             Word tried = words.get(i);
-            putWord(line, place, tried);
+            replaceWord(line, place, tried);
             int taxes = allTaxes();
             if (i == 0 || taxes < least) {
                 least = taxes;
                 best = tried;
             }
         }
-        putWord(line, place, replaced);
+        replaceWord(line, place, replaced);
         return best;
     }
 
@@ -370,7 +376,7 @@ public final class RhymeTax {
         for (int i = Math.max(first, 0); i < lines.size(); i++) {
             Line line = lines.get(i);
             line.scanIn(flow, start);
-            line.payRhyme();
+            line.payRhyme(rhymeBetween(line, line.partner));
             start += line.stays;
         }
     }
@@ -480,10 +486,13 @@ public final class RhymeTax {
             return uses;
         }
 
-        void putWord(int place, Word word) {
-            if (place == row.size()) {
-                row.add(word);
-            } else if (isBelow(place, row.size())) {
+        void addWord(Word word) {
+            row.add(word);
+            joinWords();
+        }
+
+        void replaceWord(int place, Word word) {
+            if (isBelow(place, row.size())) {
                 row.set(place, word);
             }
             joinWords();
@@ -528,8 +537,8 @@ public final class RhymeTax {
             lacks = room - stays;
         }
 
-        void payRhyme() {
-            paid = rhymeBetween(this, partner);
+        void payRhyme(int rhyme) {
+            paid = rhyme;
             tax = row.isEmpty() ? feet
                     : Math.max(0, 2 * Long.bitCount(staying) + 3 * off + 5 * lacks - 4 * paid);
         }
